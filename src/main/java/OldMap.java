@@ -577,8 +577,8 @@ public final class OldMap {
 
         private boolean fitTurned() {
             long d = spread(0, 0) + spread(1, 1);
-            long p = turnedP();
-            long q = turnedQ();
+            long p = spread(0, 2) + spread(1, 3);
+            long q = spread(0, 3) - spread(1, 2);
             toX.set(n * p, -n * q, d * sums[2] - p * sums[0] + q * sums[1], n * d);
             toY.set(n * q, n * p, d * sums[3] - q * sums[0] - p * sums[1], n * d);
             return d > 0;
@@ -591,14 +591,6 @@ public final class OldMap {
             long byY = axis == 0 ? 0 : n * p;
             way.set(byX, byY, d * sums[axis + 2] - p * sums[axis], n * d);
             return d > 0;
-        }
-
-        private long turnedP() {
-            return spread(0, 2) + spread(1, 3);
-        }
-
-        private long turnedQ() {
-            return spread(0, 3) - spread(1, 2);
         }
 
         private long sumOf(int row) {
@@ -668,8 +660,8 @@ public final class OldMap {
         private long turnedMiss() {
             long oldSpread = spread(0, 0) + spread(1, 1);
             long newSpread = spread(2, 2) + spread(3, 3);
-            long p = turnedP();
-            long q = turnedQ();
+            long p = spread(0, 2) + spread(1, 3);
+            long q = spread(0, 3) - spread(1, 2);
             return oldSpread * newSpread - p * p - q * q;
         }
 
@@ -725,19 +717,24 @@ public final class OldMap {
         }
 
         private boolean isOver(int triangle) {
-            return !isFlat(triangle) && turn(triangle, 0) > 0 != turn(triangle, 1) > 0;
+            return wayRound(triangle, 0) * wayRound(triangle, 1) < 0;
+        }
+
+        /** Which way round its corners go on a map: 1 or -1, 0 if they lie on one line. */
+        private int wayRound(int triangle, int map) {
+            return Integer.signum(turn(triangle, map));
         }
 
         /** Above 0 if a place lies on the inner side of a triangle's side, 0 if on its line. */
-        private int inward(int triangle, int map, int from, int x, int y) {
+        private int inward(int triangle, int map, int way, int from, int x, int y) {
             int[] c = corner[triangle];
-            int side = points.side(map, c[from], c[(from + 1) % CORNERS], x, y);
-            return turn(triangle, map) > 0 ? side : -side;
+            return way * points.side(map, c[from], c[(from + 1) % CORNERS], x, y);
         }
 
         private boolean holds(int triangle, int map, int x, int y) {
+            int way = wayRound(triangle, map);
             for (int from = 0; from < CORNERS; from++) {
-                if (inward(triangle, map, from, x, y) < 0) {
+                if (inward(triangle, map, way, from, x, y) < 0) {
                     return false;
                 }
             }
@@ -772,19 +769,20 @@ public final class OldMap {
         }
 
         private boolean isParted(int t, int u, int map) {
+            int way = wayRound(t, map);
             for (int from = 0; from < CORNERS; from++) {
-                if (isOutside(t, from, u, map)) {
+                if (isOutside(t, map, way, from, corner[u])) {
                     return true;
                 }
             }
             return false;
         }
 
-        private boolean isOutside(int t, int from, int u, int map) {
+        private boolean isOutside(int t, int map, int way, int from, int[] others) {
             int[] xs = points.at[2 * map];
             int[] ys = points.at[2 * map + 1];
-            for (int c : corner[u]) {
-                if (inward(t, map, from, xs[c], ys[c]) > 0) {
+            for (int other : others) {
+                if (inward(t, map, way, from, xs[other], ys[other]) > 0) {
                     return false;
                 }
             }

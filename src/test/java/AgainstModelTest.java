@@ -42,6 +42,11 @@ public final class AgainstModelTest {
         for (int i = 0; i < first; i++) {
             newPoint();
         }
+        int second = random.nextInt(25);
+        for (int i = 0; i < second; i++) {
+            newTriangle();
+            newThing();
+        }
         for (int i = 0; i < CALLS && due.wrong() == 0; i++) {
             one();
         }
@@ -56,6 +61,19 @@ public final class AgainstModelTest {
 
     private int upTo(int most) {
         return rarely() ? WRONG[random.nextInt(WRONG.length)] : random.nextInt(most + 1);
+    }
+
+    /** Mostly one of so many, now and then the one behind the last, or a number far away. */
+    private int oneOf(int count) {
+        return random.nextInt(12) == 0 || count == 0 ? upTo(count) : random.nextInt(count);
+    }
+
+    private int somePoint() {
+        return oneOf(model.many(0));
+    }
+
+    private int someTriangle() {
+        return oneOf(model.many(2));
     }
 
     private int coordinate() {
@@ -101,9 +119,9 @@ public final class AgainstModelTest {
     }
 
     private void newTriangle() {
-        int p = upTo(11);
-        int q = upTo(11);
-        int r = upTo(11);
+        int p = somePoint();
+        int q = somePoint();
+        int r = somePoint();
         same("triangle(" + p + ", " + q + ", " + r + ")",
                 map.triangle(p, q, r), model.triangle(p, q, r));
     }
@@ -122,7 +140,7 @@ public final class AgainstModelTest {
     }
 
     private void pointCalls(int which) {
-        int k = upTo(11);
+        int k = somePoint();
         boolean on = random.nextInt(4) != 0;
         if (which < 3) {
             newPoint();
@@ -144,7 +162,7 @@ public final class AgainstModelTest {
 
     private void bendCalls(int which) {
         int kind = upTo(2);
-        int k = upTo(11);
+        int k = somePoint();
         int what = upTo(3);
         if (which < 2) {
             int w = upTo(7);
@@ -163,17 +181,17 @@ public final class AgainstModelTest {
             same("beyond(" + kind + ")", map.beyond(kind), model.beyond(kind));
         } else if (which == 7) {
             same("lying(" + kind + ")", map.lying(kind), model.lying(kind));
-        } else if (which == 8 && rarely()) {
+        } else if (which == 8 && random.nextInt(6) == 0) {
             same("drop(" + kind + ")", map.drop(kind), model.drop(kind));
         } else {
             int w = upTo(1);
-            int v = random.nextInt(3) == 0 ? upTo(1000) : upTo(3 * reach / 2 + 1);
+            int v = random.nextInt(3) == 0 ? upTo(w == 1 ? 2000 : 1000) : upTo(3 * reach / 2 + 1);
             same("rule(" + w + ", " + v + ")", map.rule(w, v), model.rule(w, v));
         }
     }
 
     private void triangleCalls(int which) {
-        int t = upTo(9);
+        int t = someTriangle();
         int m = upTo(1);
         int x = coordinate();
         int y = coordinate();
@@ -188,7 +206,7 @@ public final class AgainstModelTest {
             same("carried(" + t + ", " + m + ", " + x + ", " + y + ", " + what + ")",
                     map.carried(t, m, x, y, what), model.carried(t, m, x, y, what));
         } else if (which < 11) {
-            int u = upTo(9);
+            int u = someTriangle();
             same("meet(" + t + ", " + u + ", " + m + ")", map.meet(t, u, m), model.meet(t, u, m));
         } else {
             same("area(" + t + ", " + m + ")", map.area(t, m), model.area(t, m));
@@ -199,11 +217,11 @@ public final class AgainstModelTest {
         int kind = upTo(2);
         if (which < 5) {
             newThing();
-        } else if (which == 5 && rarely()) {
+        } else if (which == 5 && random.nextInt(8) == 0) {
             int m = upTo(1);
             same("sweep(" + m + ")", map.sweep(m), model.sweep(m));
         } else if (which < 8) {
-            int old = upTo(5);
+            int old = oneOf(model.many(5));
             same("match(" + kind + ", " + old + ")", map.match(kind, old), model.match(kind, old));
         } else if (which == 8) {
             same("cost(" + kind + ")", map.cost(kind), model.cost(kind));
@@ -212,9 +230,9 @@ public final class AgainstModelTest {
         } else if (which < 12) {
             int what = upTo(8);
             same("many(" + what + ")", map.many(what), model.many(what));
-        } else if (which == 12) {
+        } else if (which == 12 && random.nextInt(3) == 0) {
             same("keep()", map.keep(), model.keep());
-        } else {
+        } else if (which == 13 && random.nextInt(3) == 0) {
             same("back()", map.back(), model.back());
         }
     }
