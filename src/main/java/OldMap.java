@@ -3,7 +3,7 @@
  *
  * All arithmetic is exact, in whole numbers: a fraction is held as what stands above and below its
  * line, and is cleared only as it is told. The document's bounds (12 POINTS, numbers of -1000 to
- * 1000) keep every such number below 2 to the power of 58, so that a long never overflows.
+ * 1000) keep every such number below 2 to the power of 57, so that a long never overflows.
  *
  * No call makes an object: all rows are made with the object and used again.
  */
