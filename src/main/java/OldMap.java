@@ -19,9 +19,8 @@ public final class OldMap {
     private static final int MOST_POINTS = 12;
     private static final int MOST_TRIANGLES = 10;
     private static final int MOST_THINGS = 6;
-    private static final int MOST_LYING = 3;
-    /** Of 12 POINTS there are 220 sets of three, and fewer of two or of one. */
-    private static final int MOST_SETS = 220;
+    /** Sets of at most 3 of 12 POINTS: 1 of none, 12 of one, 66 of two, 220 of three. */
+    private static final int MOST_SETS = 299;
     private static final int MOST_BEYOND = 1000;
     private static final int MOST_LOST = 2000;
     private static final int THING_KINDS = 6;
@@ -397,11 +396,15 @@ public final class OldMap {
         if (!fits(kind)) {
             return FEW;
         }
-        int found = agreeWithout(kind, 0) ? 0 : NONE;
-        for (int size = 1; size <= MOST_LYING && found == NONE; size++) {
-            found = leastSet(kind, size);
+        int counting = table.points.counting();
+        int set = 0;
+        for (int tried = 0; tried < MOST_SETS; tried++) {
+            if ((set & ~counting) == 0 && agreeWithout(kind, set)) {
+                return set;
+            }
+            set = nextSet(set);
         }
-        return found;
+        return NONE;
     }
 
     private boolean agreeWithout(int kind, int set) {
@@ -409,17 +412,11 @@ public final class OldMap {
                 && theBend.firstBeyond(beyondLimit) == NONE;
     }
 
-    /** The least set of so many POINTS (1 at least), as bits, without which the others agree. */
-    private int leastSet(int kind, int size) {
-        int counting = table.points.counting();
-        int set = (1 << size) - 1;
-        for (int tried = 0; tried < MOST_SETS && set <= counting; tried++) {
-            if ((set & ~counting) == 0 && agreeWithout(kind, set)) {
-                return set;
-            }
-            set = nextOfSameSize(set);
-        }
-        return NONE;
+    /** The sets of POINTS follow one another from the fewest to more, and then from the least. */
+    private static int nextSet(int set) {
+        int size = Integer.bitCount(set);
+        int lastOfSize = (1 << size) - 1 << MOST_POINTS - size;
+        return set == lastOfSize ? (1 << size + 1) - 1 : nextOfSameSize(set);
     }
 
     /**
