@@ -714,24 +714,23 @@ public final class OldMap {
         }
 
         private boolean isOver(int triangle) {
-            return wayRound(triangle, 0) * wayRound(triangle, 1) < 0;
+            long before = turn(triangle, 0);
+            return before * turn(triangle, 1) < 0;
         }
 
-        /** Which way round its corners go on a map: 1 or -1, 0 if they lie on one line. */
-        private int wayRound(int triangle, int map) {
-            return Integer.signum(turn(triangle, map));
-        }
-
-        /** Above 0 if a place lies on the inner side of a triangle's side, 0 if on its line. */
-        private int inward(int triangle, int map, int way, int from, int x, int y) {
+        /**
+         * Above 0 if a place lies on the inner side of a triangle's side, 0 if on its line. The
+         * triangle's turn on the map is given, as it is the same for all sides and places.
+         */
+        private long inward(int triangle, int map, long ownTurn, int from, int x, int y) {
             int[] c = corner[triangle];
-            return way * points.side(map, c[from], c[(from + 1) % CORNERS], x, y);
+            return ownTurn * points.side(map, c[from], c[(from + 1) % CORNERS], x, y);
         }
 
         private boolean holds(int triangle, int map, int x, int y) {
-            int way = wayRound(triangle, map);
+            long ownTurn = turn(triangle, map);
             for (int from = 0; from < CORNERS; from++) {
-                if (inward(triangle, map, way, from, x, y) < 0) {
+                if (inward(triangle, map, ownTurn, from, x, y) < 0) {
                     return false;
                 }
             }
@@ -766,20 +765,20 @@ public final class OldMap {
         }
 
         private boolean isParted(int t, int u, int map) {
-            int way = wayRound(t, map);
+            long ownTurn = turn(t, map);
             for (int from = 0; from < CORNERS; from++) {
-                if (isOutside(t, map, way, from, corner[u])) {
+                if (isOutside(t, map, ownTurn, from, corner[u])) {
                     return true;
                 }
             }
             return false;
         }
 
-        private boolean isOutside(int t, int map, int way, int from, int[] others) {
+        private boolean isOutside(int t, int map, long ownTurn, int from, int[] others) {
             int[] xs = points.at[2 * map];
             int[] ys = points.at[2 * map + 1];
             for (int other : others) {
-                if (inward(t, map, way, from, xs[other], ys[other]) > 0) {
+                if (inward(t, map, ownTurn, from, xs[other], ys[other]) > 0) {
                     return false;
                 }
             }

@@ -26,13 +26,21 @@ public final class LanguageTest {
         "int thing(int,int,int,int)", "int sweep(int)", "int match(int,int)", "int cost(int)",
         "int left(int)", "int many(int)", "int keep()", "int back()"};
 
+    /** Of what rule 4 names the class uses no more than this. */
+    private static final Set<String> LIBRARY = Set.of("java.lang.Integer.bitCount(int)",
+            "java.lang.Math.abs(int)", "java.lang.Math.abs(long)",
+            "java.lang.Math.floorDiv(long,long)", "java.lang.Math.min(int,int)",
+            "java.lang.System.arraycopy(java.lang.Object,int,java.lang.Object,int,int)");
+
     private LanguageTest() {
     }
 
     public static void main(String[] args) throws IOException {
         face();
         insideClasses();
-        String source = Files.readString(Path.of("src/main/java/OldMap.java"));
+        Path file = Path.of("src/main/java/OldMap.java");
+        callsOf(new SourceCalls(file));
+        String source = Files.readString(file);
         words(withoutTexts(source));
         objects(withoutTexts(source));
         lengths(source);
@@ -132,6 +140,20 @@ public final class LanguageTest {
                 DUE.holds("made with the object: " + line.trim(),
                         line.matches(" +(private final \\S+ )?\\w+ = new .*;"));
             }
+        }
+    }
+
+    private static void callsOf(SourceCalls source) {
+        DUE.part("rule 4");
+        Set<String> library = source.outside();
+        library.removeAll(LIBRARY);
+        DUE.holds("none of the library but a few numbers' functions and arraycopy: " + library,
+                library.isEmpty());
+        DUE.part("rules 8, 11");
+        DUE.holds("methods found: " + source.calls.size(), source.calls.size() > 80);
+        for (String method : source.calls.keySet()) {
+            List<String> open = source.deepest(method);
+            DUE.holds("at most eight deep: " + open, open.size() <= 8);
         }
     }
 
